@@ -2,7 +2,7 @@
  * A book of deposits by notice and by term: lots with interest by the day, tiers by the whole sum
  * or by bands, notices, early money, instructions at the end of terms, and lots that are joined.
  *
- * Money is in cents, interest in parts of a cent. The promises stand in DOC.md.
+ * Money is in cents, interest in parts of a cent. The promises stand in ../shared/DOC.md.
  */
 public final class NoticeBook {
     public static final int NONE = -1;
@@ -431,7 +431,7 @@ public final class NoticeBook {
     /** Pays cents of the principal, and the interest if the lot is gone then. */
     private int payOut(Lot lot, int cents) {
         lot.principal -= cents;
-        paidCents[lot.customer] += cents;
+        notePaid(lot.customer, cents);
         if (lot.principal > 0) {
             return cents;
         }
@@ -442,13 +442,22 @@ public final class NoticeBook {
 
     private int payInterest(Lot lot) {
         int interest = lot.drawWholeCents();
-        paidCents[lot.customer] += interest;
+        notePaid(lot.customer, interest);
         return interest;
+    }
+
+    private void notePaid(int customer, int cents) {
+        if (customer >= 0 && customer < paidCents.length) {
+            paidCents[customer] += cents;
+        }
     }
 
     private void lose(Lot lot, long parts) {
         lot.earned -= parts;
-        lostParts[lot.customer] += parts;
+        int customer = lot.customer;
+        if (customer >= 0 && customer < lostParts.length) {
+            lostParts[customer] += parts;
+        }
     }
 
     private static long lossByEarly(Lot lot, int taken) {
