@@ -68,6 +68,17 @@ public final class EarlyTest {
         close.deposit(0, 1374555);
         close.early(0, 1);
         CHECK.due("a lot less by next to nothing", 15445, close.principal(1));
+        // Less by 1/(968068 * 9379239), which a double does not tell.
+        NoticeBook closest = new NoticeBook();
+        closest.setByBands(true);
+        closest.setRate(0, 2000);
+        closest.setRate(1, 1197);
+        closest.setRate(2, 1273);
+        closest.deposit(0, 8605);
+        closest.deposit(0, 968068);
+        closest.deposit(0, 9379239);
+        closest.early(0, 1);
+        CHECK.due("a lot less by what no double tells", 968067, closest.principal(1));
     }
 
     private static void thirtyDaysAreLost() {
