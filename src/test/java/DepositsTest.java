@@ -13,6 +13,8 @@ public final class DepositsTest {
         numbersAreNotUsedAgain();
         noSuchLot();
         noSuchCustomer();
+        fourCustomers();
+        lastNumberOfAll();
         CHECK.end();
     }
 
@@ -185,5 +187,69 @@ public final class DepositsTest {
             CHECK.refused("paid" + call, Check.INDEX, DepositsTest::twoLots, b -> b.paid(customer));
             CHECK.refused("lost" + call, Check.INDEX, DepositsTest::twoLots, b -> b.lost(customer));
         }
+    }
+
+    /** Each customer from 0 to 3 in each call by customer, and no other is touched. */
+    private static void fourCustomers() {
+        for (int customer = 0; customer < 4; customer++) {
+            NoticeBook book = new NoticeBook();
+            CHECK.due("deposit of customer " + customer, 0, book.deposit(customer, 1000));
+            CHECK.due("depositTerm of customer " + customer, 1, book.depositTerm(customer, 7, 1, NoticeBook.PAY));
+            book.pass(1);
+            CHECK.due("early of customer " + customer, 400, book.early(customer, 400));
+            for (int other = 0; other < 4; other++) {
+                boolean own = other == customer;
+                CHECK.due("total", own ? 600 : 0, book.total(other));
+                CHECK.due("partsByTotal", own ? 60000 : 0, book.partsByTotal(other));
+                CHECK.due("paid", own ? 407 : 0, book.paid(other));
+                CHECK.due("lost", own ? 100000 + 7 * 250 : 0, book.lost(other));
+            }
+        }
+    }
+
+    /** 40 lots: 38 is by TERM, and so is 39, or it is by NOTICE. */
+    private static NoticeBook upToTheLast(boolean byTerm) {
+        NoticeBook book = new NoticeBook();
+        for (int lot = 0; lot < 38; lot++) {
+            book.deposit(1, 3);
+        }
+        book.depositTerm(0, 1000, 40, NoticeBook.SPLIT);
+        if (byTerm) {
+            book.depositTerm(0, 1000, 40, NoticeBook.SPLIT);
+        } else {
+            book.deposit(0, 1000);
+        }
+        return book;
+    }
+
+    private static void lastNumberOfAll() {
+        NoticeBook notice = upToTheLast(false);
+        CHECK.due("principal of lot 39", 1000, notice.principal(39));
+        CHECK.due("partsOfDay of lot 39", 100000, notice.partsOfDay(39));
+        CHECK.due("endOf lot 39", NoticeBook.NONE, notice.endOf(39));
+        CHECK.due("give of lot 39", 32, notice.give(39, 10));
+        CHECK.due("withdraw of lot 39", 10, notice.withdraw(39));
+        CHECK.due("give of lot 39", 32, notice.give(39, 20));
+        CHECK.due("frozen of lot 39", 20, notice.frozen(39));
+        notice.pass(32);
+        CHECK.due("earned of lot 39", 3200000, notice.earned(39));
+        CHECK.due("take of lot 39", 20, notice.take(39));
+        CHECK.due("early of lot 39", 5, notice.early(0, 5));
+        CHECK.due("principal then", 975, notice.principal(39));
+        notice.give(39, 30);
+        notice.pass(39);
+        CHECK.due("the notice of lot 39 lapses", 0, notice.frozen(39));
+        NoticeBook term = upToTheLast(true);
+        CHECK.due("endOf lot 39", 40, term.endOf(39));
+        CHECK.due("instruct of lot 39", NoticeBook.SPLIT, term.instruct(39, NoticeBook.ROLL));
+        CHECK.due("the last two end", 2, term.pass(40));
+        CHECK.due("join to lot 39", 2000 + 2, term.join(39, 38));
+        CHECK.due("39 lots then", 39, term.lots());
+        NoticeBook let = upToTheLast(true);
+        let.pass(40);
+        CHECK.due("letGo of lot 39", 1000, let.letGo(39));
+        CHECK.due("39 lots", 39, let.lots());
+        CHECK.refused("lot 40 of 40", Check.INDEX, () -> upToTheLast(true), b -> b.principal(40));
+        CHECK.refused("lot 40 of 40", Check.INDEX, () -> upToTheLast(true), b -> b.join(39, 40));
     }
 }

@@ -15,6 +15,13 @@ public final class EarlyTest {
         otherLotsAreLeftAlone();
         largest();
         refused();
+        aCent();
+        losesBeforeItPays();
+        thirtyDaysExactly();
+        equalHarmOfNothing();
+        orderIsThatAheadOfTheCall();
+        noLotIsAskedInVain();
+        paidAloneWhenGone();
         CHECK.end();
     }
 
@@ -102,6 +109,14 @@ public final class EarlyTest {
         CHECK.due("early", 1, book.early(0, 1));
         CHECK.due("30000 / 7, rounded down", 4285, book.lost(0));
         CHECK.due("earned", 10000 - 4285, book.earned(1));
+        NoticeBook once = new NoticeBook();
+        once.setByBands(true);
+        once.deposit(0, 99996);
+        once.deposit(0, 7);
+        once.pass(20);
+        once.give(0, 99996);
+        CHECK.due("early", 3, once.early(0, 3));
+        CHECK.due("90000 / 7, rounded down once for all cents", 12857, once.lost(0));
     }
 
     private static void noMoreThanEarned() {
@@ -234,5 +249,114 @@ public final class EarlyTest {
         CHECK.refused("the most, of less", Check.STATE, EarlyTest::some, b -> b.early(1, 100000000));
         CHECK.refused("of no lots", Check.STATE, EarlyTest::some, b -> b.early(2, 1));
         CHECK.due("all that is not frozen", 150, some().early(0, 150));
+    }
+
+    private static void aCent() {
+        NoticeBook book = new NoticeBook();
+        book.deposit(0, 1);
+        book.pass(40);
+        CHECK.due("a cent of a cent", 1, book.early(0, 1));
+        CHECK.due("lost 30 days and the rest", 40 * 100, book.lost(0));
+        CHECK.due("gone", 0, book.lots());
+        NoticeBook free = new NoticeBook();
+        free.deposit(0, 1000);
+        free.give(0, 999);
+        free.pass(31);
+        CHECK.due("the one cent that is not frozen", 1, free.early(0, 1));
+        CHECK.due("lost 30 days of it", 3000, free.lost(0));
+        CHECK.due("all that is left is frozen", 999, free.principal(0));
+    }
+
+    private static void losesBeforeItPays() {
+        for (int days = 1854; days <= 1855; days++) {
+            NoticeBook book = new NoticeBook();
+            book.setRate(0, 2000);
+            book.deposit(0, 1);
+            while (book.today() < days) {
+                book.pass(Math.min(100, days - book.today()));
+            }
+            // Of more than a cent in both, 60000 parts are lost: 3648000, or just a cent, is left.
+            long left = days * 2000 - 60000;
+            CHECK.due("early after " + days, days == 1855 ? 2 : 1, book.early(0, 1));
+            CHECK.due("lost after " + days, 60000 + (days == 1855 ? 0 : left), book.lost(0));
+        }
+    }
+
+    private static void thirtyDaysExactly() {
+        for (int days = 29; days <= 31; days++) {
+            NoticeBook book = new NoticeBook();
+            book.setRate(0, 1000);
+            book.deposit(0, 3650);
+            book.pass(days);
+            // Each day earns a cent exactly.
+            CHECK.due("after " + days, days > 30 ? 3651 : 3650, book.early(0, 3650));
+            CHECK.due("lost after " + days, Math.min(30, days) * 3650000, book.lost(0));
+        }
+    }
+
+    private static void equalHarmOfNothing() {
+        NoticeBook book = new NoticeBook();
+        book.setRate(0, 0);
+        book.deposit(0, 300);
+        book.deposit(0, 100);
+        book.deposit(0, 200);
+        book.pass(50);
+        CHECK.due("of several that earn nothing", 250, book.early(0, 250));
+        CHECK.due("the last is gone, the next gave the rest", 50, book.principal(1));
+        CHECK.due("the first gave nothing", 300, book.principal(0));
+        CHECK.due("nothing is lost", 0, book.lost(0));
+    }
+
+    private static void orderIsThatAheadOfTheCall() {
+        NoticeBook book = new NoticeBook();
+        book.setByBands(true);
+        book.setRate(0, 300);
+        book.setRate(1, 100);
+        book.setRate(2, 200);
+        book.deposit(0, 100000);
+        book.deposit(0, 900000);
+        book.deposit(0, 900000);
+        book.deposit(0, 100000);
+        // Lot 1 is gone first; then lot 2 would be at 100, but ahead of the call both were at 200.
+        CHECK.due("early", 950000, book.early(0, 950000));
+        CHECK.due("the last one gave the rest", 50000, book.principal(3));
+        CHECK.due("not the one that moved down", 900000, book.principal(2));
+        CHECK.due("now that one is at 100", 900000L * 100, book.partsOfDay(2));
+        CHECK.due("and gives first", 899999, afterEarly(book, 1).principal(2));
+    }
+
+    private static NoticeBook afterEarly(NoticeBook book, int cents) {
+        book.early(0, cents);
+        return book;
+    }
+
+    private static void noLotIsAskedInVain() {
+        NoticeBook book = new NoticeBook();
+        book.deposit(0, 1000);
+        book.deposit(0, 500);
+        book.pass(10);
+        CHECK.due("all of the last one, exactly", 500, book.early(0, 500));
+        CHECK.due("the other keeps its principal", 1000, book.principal(0));
+        CHECK.due("and what it has earned", 10 * 100000, book.earned(0));
+        CHECK.due("the last one lost", 10 * 50000, book.lost(0));
+        NoticeBook more = new NoticeBook();
+        more.deposit(0, 1000);
+        more.deposit(0, 500);
+        more.pass(40);
+        CHECK.due("a cent more", 501, more.early(0, 501));
+        CHECK.due("the other gave a cent", 999, more.principal(0));
+        CHECK.due("and lost 30 days of it", 40 * 100000 - 3000, more.earned(0));
+    }
+
+    private static void paidAloneWhenGone() {
+        NoticeBook book = new NoticeBook();
+        book.setRate(0, 2000);
+        book.deposit(0, 1000);
+        book.deposit(0, 1000);
+        book.pass(100);
+        // Each earned 200 million parts; all of one loses 60 million of them.
+        CHECK.due("interest of the one that is gone", 1999 + 38, book.early(0, 1999));
+        CHECK.due("the other keeps its interest", 200000000 - 30 * 2000 * 999, book.earned(0));
+        CHECK.due("paid", 1999 + 38, book.paid(0));
     }
 }

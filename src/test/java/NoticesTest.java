@@ -15,6 +15,11 @@ public final class NoticesTest {
         withdrawRefused();
         takeRefused();
         nearTheLastDay();
+        eachDayToTake();
+        fewestAndMostCents();
+        noMoreThanIsLeft();
+        frozenUntilItLapses();
+        lapsesOnTheLastDay();
         CHECK.end();
     }
 
@@ -209,5 +214,99 @@ public final class NoticesTest {
         }
         CHECK.due("a notice on the last day", 3032, book.give(0, 5));
         CHECK.due("withdrawn again", 5, book.withdraw(0));
+    }
+
+    private static void eachDayToTake() {
+        for (int days = 1; days <= 40; days++) {
+            int later = days;
+            if (days < 32 || days > 38) {
+                CHECK.refused("take after " + days, Check.STATE, () -> noticedFor(later), b -> b.take(0));
+            } else {
+                CHECK.due("take after " + days, 400, noticedFor(days).take(0));
+            }
+            if (days <= 38) {
+                CHECK.due("withdraw after " + days, 400, noticedFor(days).withdraw(0));
+                CHECK.refused("give after " + days, Check.STATE, () -> noticedFor(later), b -> b.give(0, 1));
+            } else {
+                CHECK.refused("withdraw after " + days, Check.STATE, () -> noticedFor(later),
+                        b -> b.withdraw(0));
+                CHECK.due("give after " + days, 5 + days + 32, noticedFor(days).give(0, 1));
+            }
+        }
+    }
+
+    private static NoticeBook oneCentNoticed() {
+        NoticeBook book = new NoticeBook();
+        book.deposit(0, 10000000);
+        book.give(0, 1);
+        book.pass(32);
+        return book;
+    }
+
+    private static void fewestAndMostCents() {
+        CHECK.due("a cent is frozen", 1, oneCentNoticed().frozen(0));
+        CHECK.refused("a notice of a cent is one", Check.STATE, NoticesTest::oneCentNoticed, b -> b.give(0, 1));
+        CHECK.due("it can be withdrawn", 1, oneCentNoticed().withdraw(0));
+        CHECK.due("it can be taken", 1, oneCentNoticed().take(0));
+        CHECK.due("all but a cent is not frozen", 9999999, oneCentNoticed().early(0, 9999999));
+        CHECK.refused("the cent is", Check.STATE, NoticesTest::oneCentNoticed, b -> b.early(0, 10000000));
+        NoticeBook most = new NoticeBook();
+        most.setRate(2, 0);
+        most.deposit(0, 10000000);
+        CHECK.refused("a cent more than there is", Check.ARGUMENT, () -> {
+            NoticeBook b = new NoticeBook();
+            b.deposit(0, 10000000);
+            return b;
+        }, b -> b.give(0, 10000001));
+        CHECK.due("all of the largest lot", 32, most.give(0, 10000000));
+        CHECK.due("is frozen", 10000000, most.frozen(0));
+        most.pass(32);
+        CHECK.due("and taken", 10000000, most.take(0));
+    }
+
+    /** Of 1000 cents 100 were taken early, and 200 by a notice. */
+    private static NoticeBook sevenHundredLeft() {
+        NoticeBook book = new NoticeBook();
+        book.deposit(0, 1000);
+        book.early(0, 100);
+        book.give(0, 200);
+        book.pass(32);
+        book.take(0);
+        return book;
+    }
+
+    private static void noMoreThanIsLeft() {
+        CHECK.refused("more than is left", Check.ARGUMENT, NoticesTest::sevenHundredLeft, b -> b.give(0, 701));
+        CHECK.due("all that is left", 64, sevenHundredLeft().give(0, 700));
+    }
+
+    private static void frozenUntilItLapses() {
+        CHECK.refused("frozen on the last day to take", Check.STATE, () -> noticedFor(38),
+                b -> b.early(0, 601));
+        CHECK.due("what is not frozen on that day", 600, noticedFor(38).early(0, 600));
+        CHECK.due("not frozen a day later", 601, noticedFor(39).early(0, 601));
+        CHECK.refused("frozen on the first day, too", Check.STATE, NoticesTest::noticed, b -> b.early(0, 601));
+        NoticeBook withdrawn = noticed();
+        withdrawn.withdraw(0);
+        CHECK.due("not frozen once it is withdrawn", 601, withdrawn.early(0, 601));
+    }
+
+    private static NoticeBook noticedOnDay(int day, int passTo) {
+        NoticeBook book = new NoticeBook();
+        book.deposit(0, 5);
+        while (book.today() < day) {
+            book.pass(Math.min(100, day - book.today()));
+        }
+        book.give(0, 2);
+        book.pass(passTo - day);
+        return book;
+    }
+
+    private static void lapsesOnTheLastDay() {
+        CHECK.due("it lapses when the last day begins", 0, noticedOnDay(2961, 3000).frozen(0));
+        CHECK.due("it does not when it can be taken still", 2, noticedOnDay(2962, 3000).frozen(0));
+        CHECK.due("it can", 2, noticedOnDay(2962, 3000).take(0));
+        CHECK.due("the last that can be taken at all", 2, noticedOnDay(2968, 3000).take(0));
+        CHECK.refused("the first that cannot", Check.STATE, () -> noticedOnDay(2969, 3000), b -> b.take(0));
     }
 }

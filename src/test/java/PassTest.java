@@ -9,6 +9,10 @@ public final class PassTest {
         lastDay();
         refused();
         longest();
+        allThatCanEnd();
+        upToTheLastDay();
+        manyCalls();
+        noticesLapseAndLotsEndInOneDay();
         CHECK.end();
     }
 
@@ -120,5 +124,62 @@ public final class PassTest {
         CHECK.due("principal after 3000 days", principal, book.principal(0));
         CHECK.due("left over after 3000 days", left, book.earned(0));
         CHECK.due("parts after 3000 days", principal * 2000, book.partsOfDay(0));
+    }
+
+    private static void allThatCanEnd() {
+        NoticeBook book = new NoticeBook();
+        for (int lot = 0; lot < 40; lot++) {
+            book.depositTerm(lot % 4, 1, 1, NoticeBook.ROLL);
+        }
+        CHECK.due("40 lots a day", 40 * 100, book.pass(100));
+        CHECK.due("40 lots", 40, book.lots());
+        for (int lot = 0; lot < 40; lot++) {
+            book.instruct(lot, NoticeBook.PAY);
+        }
+        CHECK.due("40 lots once", 40, book.pass(100));
+        CHECK.due("no lots", 0, book.lots());
+        CHECK.due("none is left to end", 0, book.pass(100));
+    }
+
+    private static void upToTheLastDay() {
+        for (int days = 1; days <= 100; days += 33) {
+            NoticeBook book = at(3000 - days);
+            book.pass(days);
+            CHECK.due("the last day by " + days, 3000, book.today());
+            int oneMore = days;
+            if (days > 1) {
+                CHECK.refused("the day behind it by " + days, Check.STATE, () -> at(3001 - oneMore),
+                        b -> b.pass(oneMore));
+            }
+        }
+        NoticeBook book = at(3000);
+        CHECK.due("a deposit on the last day", 2, book.deposit(1, 5));
+        CHECK.due("early money on the last day", 5, book.early(1, 5));
+    }
+
+    /** "An object is used for at most 512 calls": the last of them answers as the first. */
+    private static void manyCalls() {
+        NoticeBook book = new NoticeBook();
+        book.deposit(0, 1000);
+        for (int k = 0; k < 255; k++) {
+            book.give(0, 1 + k);
+            CHECK.due("withdrawn", 1 + k, book.withdraw(0));
+        }
+        CHECK.due("the 512th call", 1, book.deposit(0, 5));
+    }
+
+    private static void noticesLapseAndLotsEndInOneDay() {
+        NoticeBook book = new NoticeBook();
+        book.depositTerm(0, 14600, 39, NoticeBook.SPLIT);
+        book.deposit(0, 1000);
+        book.depositTerm(0, 14600, 39, NoticeBook.PAY);
+        book.give(1, 1000);
+        CHECK.due("none ends", 0, book.pass(38));
+        CHECK.due("frozen", 1000, book.frozen(1));
+        CHECK.due("nothing paid", 0, book.paid(0));
+        CHECK.due("two end", 2, book.pass(1));
+        CHECK.due("not frozen", 0, book.frozen(1));
+        CHECK.due("paid both", 39 + 14600 + 39, book.paid(0));
+        CHECK.due("the frozen one earned this day, too", 39 * 100000, book.earned(1));
     }
 }

@@ -15,6 +15,9 @@ public final class RatesTest {
         termRate();
         termRateRefused();
         largestTotal();
+        lotsThatEndOnABound();
+        rateBounds();
+        backBelowABound();
         CHECK.end();
     }
 
@@ -229,5 +232,62 @@ public final class RatesTest {
         book.setByBands(true);
         CHECK.due("its parts by bands", 800000000000L, book.partsByTotal(0));
         CHECK.due("parts of its last lot by bands", 20000000000L, book.partsOfDay(39));
+    }
+
+    private static void lotsThatEndOnABound() {
+        NoticeBook book = new NoticeBook();
+        book.setByBands(true);
+        book.deposit(0, 100000);
+        book.deposit(0, 900000);
+        book.deposit(0, 1);
+        CHECK.due("all the first band", 100000L * 100, book.partsOfDay(0));
+        CHECK.due("all the second band", 900000L * 200, book.partsOfDay(1));
+        CHECK.due("the first cent of the third", 300, book.partsOfDay(2));
+        NoticeBook ahead = new NoticeBook();
+        ahead.setByBands(true);
+        ahead.deposit(0, 99999);
+        ahead.deposit(0, 1);
+        ahead.deposit(0, 1);
+        ahead.deposit(0, 899998);
+        ahead.deposit(0, 1);
+        ahead.deposit(0, 1);
+        CHECK.due("the last cent of the first band", 100, ahead.partsOfDay(1));
+        CHECK.due("the first cent of the second", 200, ahead.partsOfDay(2));
+        CHECK.due("the last cent of the second", 200, ahead.partsOfDay(4));
+        CHECK.due("the first cent of the third", 300, ahead.partsOfDay(5));
+    }
+
+    private static void rateBounds() {
+        for (int band = 0; band < 3; band++) {
+            int[] totals = {100000, 1000000, 10000000};
+            NoticeBook book = new NoticeBook();
+            book.deposit(0, totals[band]);
+            book.setRate(band, 0);
+            CHECK.due("nothing at the least rate", 0, book.partsOfDay(0));
+            CHECK.due("nothing together", 0, book.partsByTotal(0));
+            book.pass(1);
+            CHECK.due("nothing is earned", 0, book.earned(0));
+            book.setRate(band, 2000);
+            CHECK.due("at the greatest rate", totals[band] * 2000L, book.partsOfDay(0));
+            CHECK.due("together", totals[band] * 2000L, book.partsByTotal(0));
+            book.pass(1);
+            CHECK.due("is earned", totals[band] * 2000L, book.earned(0));
+        }
+    }
+
+    private static void backBelowABound() {
+        NoticeBook book = new NoticeBook();
+        book.deposit(0, 600000);
+        book.deposit(0, 400001);
+        CHECK.due("above the second bound", 600000L * 300, book.partsOfDay(0));
+        book.give(1, 1);
+        book.pass(32);
+        CHECK.due("frozen cents count still", 600000L * 300, book.partsOfDay(0));
+        book.take(1);
+        CHECK.due("a cent less, below it", 600000L * 200, book.partsOfDay(0));
+        book.early(0, 900000);
+        CHECK.due("below the first bound", 100000L * 100, book.partsByTotal(0));
+        book.deposit(0, 1);
+        CHECK.due("and above it again", 100001L * 200, book.partsByTotal(0));
     }
 }

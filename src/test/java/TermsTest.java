@@ -20,6 +20,13 @@ public final class TermsTest {
         joinEndsGrace();
         joinRefused();
         joinLimit();
+        instructOnTheLastDay();
+        rangesOfDays();
+        graceOfShortestAndLongest();
+        graceOnTheLastDay();
+        joinedKeepsWhatIsItsOwn();
+        joinOnTheEdges();
+        rateOfTermsBounds();
         CHECK.end();
     }
 
@@ -318,5 +325,128 @@ public final class TermsTest {
         long principal = 100000000 + 250000000000L / 3650000;
         CHECK.due("it may grow beyond", principal, book.principal(0));
         CHECK.due("and earn so", principal * 2000, book.partsOfDay(0));
+    }
+
+    private static void instructOnTheLastDay() {
+        NoticeBook book = term(5, PAY);
+        book.pass(4);
+        CHECK.due("the day before the end", PAY, book.instruct(0, ROLL));
+        book.pass(1);
+        CHECK.due("is soon enough", 1460500, book.principal(0));
+        CHECK.due("the day of the end is for the next one", ROLL, book.instruct(0, PAY));
+        CHECK.due("and changes nothing yet", 0, book.paid(0));
+        CHECK.due("it ends", 1, book.pass(5));
+        CHECK.due("by the new instruction", 0, book.lots());
+    }
+
+    private static void rangesOfDays() {
+        for (int instruction : new int[] {SPLIT, ROLL}) {
+            NoticeBook shortest = term(1, instruction);
+            CHECK.due("it ends each day", 3, shortest.pass(3));
+            CHECK.due("the next end", 4, shortest.endOf(0));
+            NoticeBook longest = term(400, instruction);
+            CHECK.due("no end", 0, longest.pass(100) + longest.pass(100) + longest.pass(100) + longest.pass(99));
+            CHECK.due("end of the longest", 400, longest.endOf(0));
+            CHECK.due("nothing is paid a day ahead", 0, longest.paid(0));
+            CHECK.due("an end", 1, longest.pass(1));
+            CHECK.due("the next end", 800, longest.endOf(0));
+            CHECK.due("400 days of interest", 40000,
+                    instruction == SPLIT ? longest.paid(0) : longest.principal(0) - 1460000);
+        }
+        NoticeBook paid = passed(term(1, PAY), 1);
+        CHECK.due("PAY after a day", 1460100, paid.paid(0));
+    }
+
+    private static void graceOfShortestAndLongest() {
+        NoticeBook shortest = term(1, SPLIT);
+        CHECK.refused("the first day", Check.STATE, () -> term(1, SPLIT), b -> b.letGo(0));
+        shortest.pass(1);
+        CHECK.due("the second day", 1460000, shortest.letGo(0));
+        for (int length = 6; length <= 8; length++) {
+            NoticeBook book = term(length, ROLL);
+            book.setTermRate(0);
+            book.pass(2 * length - 1);
+            int days = length;
+            if (length <= 7) {
+                CHECK.due("all days of grace, of " + length, 1460000 + 100 * length, book.letGo(0));
+            } else {
+                CHECK.refused("a day without grace, of " + length, Check.STATE,
+                        () -> passed(term(days, ROLL), 2 * days - 1), b -> b.letGo(0));
+            }
+        }
+    }
+
+    /** A lot of terms of ten days, on the day 3000; a term began as many days ago. */
+    private static NoticeBook onTheLastDay(int daysAgo) {
+        NoticeBook book = new NoticeBook();
+        if (daysAgo > 0) {
+            book.pass(10 - daysAgo);
+        }
+        book.depositTerm(0, 1460000, 10, SPLIT);
+        while (book.today() < 3000) {
+            book.pass(Math.min(100, 3000 - book.today()));
+        }
+        return book;
+    }
+
+    private static void graceOnTheLastDay() {
+        CHECK.due("a term that began on that day", 1460000, onTheLastDay(0).letGo(0));
+        CHECK.due("one that began six days ago", 1460000, onTheLastDay(6).letGo(0));
+        CHECK.refused("one that began seven days ago", Check.STATE, () -> onTheLastDay(7), b -> b.letGo(0));
+    }
+
+    private static void joinedKeepsWhatIsItsOwn() {
+        for (int kept = 0; kept < 2; kept++) {
+            NoticeBook book = new NoticeBook();
+            book.depositTerm(2, 1000, 10, SPLIT);
+            book.pass(7);
+            book.depositTerm(2, 2000, 3, ROLL);
+            book.depositTerm(2, 4000, 3, PAY);
+            CHECK.due("joined", 3000, book.join(kept, 1 - kept));
+            CHECK.due("joined with a third", 7000, book.join(kept, 2));
+            CHECK.due("one lot", 1, book.lots());
+            CHECK.due("nothing is paid", 0, book.paid(2));
+            CHECK.due("nothing is lost", 0, book.lost(2));
+            CHECK.due("one end", 1, book.pass(3));
+            CHECK.due("the length is the first one's", kept == 0 ? 20 : 13, book.endOf(kept));
+            CHECK.due("the instruction is, too", kept == 0 ? SPLIT : ROLL, book.instruct(kept, PAY));
+        }
+    }
+
+    private static NoticeBook joinedWithNext(int cents) {
+        NoticeBook book = joinedUpTo(9, 9999999);
+        book.depositTerm(0, cents, 10, ROLL);
+        book.join(0, 9);
+        return book;
+    }
+
+    private static void joinOnTheEdges() {
+        CHECK.due("a cent below the limit", 99999999, joinedWithNext(1).principal(0));
+        CHECK.due("the limit", 100000000, joinedWithNext(1).join(0, 10));
+        CHECK.due("the limit, the other way round", 100000000, joinedWithNext(1).join(10, 0));
+        CHECK.refused("a cent above", Check.STATE, () -> joinedWithNext(2), b -> b.join(0, 10));
+        CHECK.refused("a cent above, the other way round", Check.STATE, () -> joinedWithNext(2),
+                b -> b.join(10, 0));
+        NoticeBook least = new NoticeBook();
+        least.depositTerm(3, 1, 1, PAY);
+        least.depositTerm(3, 1, 1, PAY);
+        CHECK.due("the least two", 2, least.join(0, 1));
+        NoticeBook lastDay = passed(several(), 9);
+        CHECK.due("the day before the end", 200, lastDay.join(0, 1));
+        CHECK.refused("ends a day apart", Check.STATE, () -> passed(several(), 9), b -> b.join(1, 2));
+    }
+
+    private static void rateOfTermsBounds() {
+        NoticeBook book = new NoticeBook();
+        book.setTermRate(0);
+        book.depositTerm(0, 10000000, 10, SPLIT);
+        CHECK.due("nothing at the least rate", 0, book.partsOfDay(0));
+        book.setTermRate(2000);
+        book.depositTerm(0, 10000000, 10, SPLIT);
+        CHECK.due("at the greatest", 20000000000L, book.partsOfDay(1));
+        CHECK.due("the first stays at its own", 0, book.partsOfDay(0));
+        book.pass(10);
+        CHECK.due("both at the rate of the new terms", 20000000000L, book.partsOfDay(0));
+        CHECK.due("interest of the second alone", 200000000000L / 3650000, book.paid(0));
     }
 }
