@@ -53,6 +53,14 @@ final class Check {
         }
     }
 
+    /** Lets days pass until today is that day. */
+    static void passTo(NoticeBook book, int day) {
+        // Bounded, so that a book whose days do not pass fails its test instead of holding it up.
+        for (int k = 0; k < 40 && book.today() < day; k++) {
+            book.pass(Math.min(100, day - book.today()));
+        }
+    }
+
     void end() {
         System.out.println(name + ": " + asked + " checks, " + wrong + " wrong");
         if (wrong != 0) {

@@ -272,9 +272,7 @@ public final class EarlyTest {
             NoticeBook book = new NoticeBook();
             book.setRate(0, 2000);
             book.deposit(0, 1);
-            while (book.today() < days) {
-                book.pass(Math.min(100, days - book.today()));
-            }
+            Check.passTo(book, days);
             // Of more than a cent in both, 60000 parts are lost: 3648000, or just a cent, is left.
             long left = days * 2000 - 60000;
             CHECK.due("early after " + days, days == 1855 ? 2 : 1, book.early(0, 1));

@@ -294,9 +294,7 @@ public final class NoticesTest {
     private static NoticeBook noticedOnDay(int day, int passTo) {
         NoticeBook book = new NoticeBook();
         book.deposit(0, 5);
-        while (book.today() < day) {
-            book.pass(Math.min(100, day - book.today()));
-        }
+        Check.passTo(book, day);
         book.give(0, 2);
         book.pass(passTo - day);
         return book;

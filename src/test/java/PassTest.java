@@ -72,12 +72,7 @@ public final class PassTest {
         NoticeBook book = new NoticeBook();
         book.deposit(0, 10);
         book.depositTerm(0, 10, 50, NoticeBook.ROLL);
-        while (book.today() + 100 <= day) {
-            book.pass(100);
-        }
-        if (book.today() < day) {
-            book.pass(day - book.today());
-        }
+        Check.passTo(book, day);
         return book;
     }
 

@@ -205,9 +205,7 @@ public final class RefusalsTest {
 
     private static NoticeBook at(int day) {
         NoticeBook book = someLots();
-        while (book.today() < day) {
-            book.pass(Math.min(100, day - book.today()));
-        }
+        Check.passTo(book, day);
         return book;
     }
 

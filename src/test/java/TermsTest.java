@@ -383,9 +383,7 @@ public final class TermsTest {
             book.pass(10 - daysAgo);
         }
         book.depositTerm(0, 1460000, 10, SPLIT);
-        while (book.today() < 3000) {
-            book.pass(Math.min(100, 3000 - book.today()));
-        }
+        Check.passTo(book, 3000);
         return book;
     }
 
