@@ -18,6 +18,8 @@ public final class RatesTest {
         lotsThatEndOnABound();
         rateBounds();
         backBelowABound();
+        lotsTogetherAreTheTotal();
+        bandsLeaveTermsAlone();
         CHECK.end();
     }
 
@@ -289,5 +291,48 @@ public final class RatesTest {
         CHECK.due("below the first bound", 100000L * 100, book.partsByTotal(0));
         book.deposit(0, 1);
         CHECK.due("and above it again", 100001L * 200, book.partsByTotal(0));
+    }
+
+    private static void lotsTogetherAreTheTotal() {
+        for (int lastCents : new int[] {1, 30000, 99999, 900000, 999999, 5000000}) {
+            NoticeBook book = new NoticeBook();
+            book.setRate(0, 701);
+            book.setRate(1, 17);
+            book.setRate(2, 1999);
+            int[] cents = {33333, 66667, 1, 123457, lastCents};
+            for (int part : cents) {
+                book.deposit(2, part);
+                book.deposit(1, 54321);
+            }
+            for (boolean byBands : new boolean[] {true, false}) {
+                book.setByBands(byBands);
+                long principals = 0;
+                long parts = 0;
+                for (int lot = 0; lot < 2 * cents.length; lot += 2) {
+                    principals += book.principal(lot);
+                    parts += book.partsOfDay(lot);
+                }
+                CHECK.due("total with " + lastCents, principals, book.total(2));
+                CHECK.due("parts with " + lastCents + ", by bands: " + byBands, parts, book.partsByTotal(2));
+            }
+        }
+    }
+
+    private static void bandsLeaveTermsAlone() {
+        NoticeBook book = new NoticeBook();
+        book.depositTerm(0, 1000, 2, NoticeBook.SPLIT);
+        CHECK.due("no total by terms alone", 0, book.total(0));
+        CHECK.due("no parts by total", 0, book.partsByTotal(0));
+        for (int band = 0; band < 3; band++) {
+            book.setRate(band, 2000);
+        }
+        CHECK.due("a running term", 250000, book.partsOfDay(0));
+        book.pass(1);
+        CHECK.due("earned by the rate of terms", 250000, book.earned(0));
+        book.setByBands(true);
+        book.pass(1);
+        CHECK.due("by bands, too", 500000, book.earned(0));
+        CHECK.due("a new term", 250000, book.partsOfDay(0));
+        CHECK.due("no parts by total by bands", 0, book.partsByTotal(0));
     }
 }

@@ -25,6 +25,7 @@ public final class TermsTest {
         graceOfShortestAndLongest();
         graceOnTheLastDay();
         joinedKeepsWhatIsItsOwn();
+        joinedBeginsANewTerm();
         joinOnTheEdges();
         rateOfTermsBounds();
         CHECK.end();
@@ -408,6 +409,27 @@ public final class TermsTest {
             CHECK.due("one end", 1, book.pass(3));
             CHECK.due("the length is the first one's", kept == 0 ? 20 : 13, book.endOf(kept));
             CHECK.due("the instruction is, too", kept == 0 ? SPLIT : ROLL, book.instruct(kept, PAY));
+        }
+    }
+
+    /** 100 cents at 250 and 300 at 500 are joined; the terms that follow are by 1000, then by 1. */
+    private static void joinedBeginsANewTerm() {
+        for (int instruction : new int[] {SPLIT, ROLL}) {
+            NoticeBook book = new NoticeBook();
+            book.depositTerm(0, 100, 4, instruction);
+            book.setTermRate(500);
+            book.depositTerm(0, 300, 4, PAY);
+            book.join(0, 1);
+            CHECK.due("the parts of both, as they were", 25000 + 150000, book.partsOfDay(0));
+            book.setTermRate(1000);
+            CHECK.due("until the term ends", 175000, book.partsOfDay(0));
+            CHECK.due("one end", 1, book.pass(4));
+            CHECK.due("then all by one rate", 400 * 1000, book.partsOfDay(0));
+            CHECK.due("what both earned stays", 4 * 175000, book.earned(0));
+            book.setTermRate(1);
+            book.pass(4);
+            CHECK.due("and then by the next", 400, book.partsOfDay(0));
+            CHECK.due("earned", 4 * 175000 + 4 * 400000, book.earned(0));
         }
     }
 
